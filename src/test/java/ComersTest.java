@@ -54,6 +54,11 @@ public final class ComersTest {
         Due.is("comer 2", house.tell(2, 5), false);
         house.told();
         Due.result("refused bars change nothing", house, 500, 1);
+        house.tell(1, 0);
+        house.tell(0, 1);
+        house.told();
+        Due.result("bar 1 says no to 0", house, 750, 1);
+        house.tell(1, 1001);
         house.tell(0, 1000);
         house.told();
         Due.result("a bar at the worth says yes to it", house, 500, 1);
@@ -62,9 +67,10 @@ public final class ComersTest {
         Due.result("no one is above 1000", house, 0, 1);
         house.dismiss();
         house.comer(0);
-        house.told();
-        Due.result("the bar of a new comer is 0", house, 500, 1);
         Due.is("a comer of before", house.tell(1, 5), false);
+        house.comer(0);
+        house.told();
+        Due.result("the bar of a new comer is 0, which takes 0", house, 500, 1);
     }
 
     private static void rulesTold() {
@@ -277,7 +283,8 @@ public final class ComersTest {
         Due.result("best", house, best);
         Due.is("parts of the top", house.look(1), 5);
         Due.is("parts of the bottom", house.look(2), 5);
-        Due.is("compare to a great one", house.compare(Integer.MAX_VALUE, Integer.MAX_VALUE), 1);
-        Due.is("compare below", house.compare(Integer.MAX_VALUE, 2147485), best.compareTo(Fraction.of(Integer.MAX_VALUE, 2147485)));
+        for (int a = 100_000; a <= 1_000_000_000; a += a / 4) {
+            Due.is("far above " + a, house.compare(a, Integer.MAX_VALUE), 1);
+        }
     }
 }

@@ -251,9 +251,20 @@ public final class ModelTest {
         for (int k = 0; k <= 10; k++) {
             house.few(k);
             Due.result("few of many " + k, house, means[k]);
+            compareAround(house, means[k]);
         }
         house.best();
         Due.result("best of many", house, means[1]);
+    }
+
+    /** Just at, below and above, with bottoms up to the greatest. */
+    private static void compareAround(ChooseOnce house, Fraction result) {
+        for (int turn = 0; turn < 6; turn++) {
+            int b = turn == 0 ? Integer.MAX_VALUE : 1 + draw(turn % 2 == 0 ? 200_000 : Integer.MAX_VALUE);
+            long near = result.top.multiply(whole(b).top).divide(result.bottom).longValue() + turn % 3 - 1;
+            int a = (int) Math.min(Integer.MAX_VALUE, near);
+            Due.is("compare " + a + " " + b, house.compare(a, b), result.compareTo(Fraction.of(a, b)));
+        }
     }
 
     private static int lowestBar(int[] pairs, Fraction no) {

@@ -117,6 +117,14 @@ public final class RanksTest {
         }
         house.ranks(20);
         Due.result("none pays", house, 0, 1);
+        house.pay(20, 1);
+        house.ranks(20);
+        ChooseOnce other = new ChooseOnce();
+        other.pay(1, 1);
+        other.ranks(20);
+        Due.is("the worst alone pays as the best alone", house.part(false, 0), other.part(false, 0));
+        Due.is("the worst alone pays as the best alone", house.part(true, 0), other.part(true, 0));
+        house.pay(20, 0);
         house.pay(4, 12);
         house.ranks(4);
         Due.result("the last is taken", house, 11, 2);

@@ -68,7 +68,18 @@ public final class RowsAndBooksTest {
         Due.is("refused over a row", other.row(0, 0, -1), -3);
         Due.is("the row is still there", other.book(0), 0);
         other.row(0, 0, 3);
-        Due.is("a new row is all 0", other.book(0), -4);
+        Due.is("a new row is all 0: no pairs", other.book(0), -4);
+        for (int width = 0; width <= 3; width++) {
+            House.row(other, 0, width, 7, 7, 7, 7, 7);
+            other.row(0, width, 5);
+            other.write(0, 0, 2);
+            other.write(0, 2, 1);
+            Due.is("a new row is all 0: a worth and a pair of 0", other.book(0), width + 1);
+            other.dismiss();
+            other.comer(width + 1);
+            other.few(1);
+            Due.result("a new row is all 0", other, 0, 1);
+        }
     }
 
     private static void tearing() {
