@@ -855,8 +855,8 @@ public final class ChooseOnce {
         }
 
         /**
-         * Were the worths from a told one on gained, a bar would be fair at a fraction; that of the worths
-         * that are above the fair bar is the greatest of these, as gaining others loses.
+         * For the worths from each one up there is a bar at which what they are above it is the price. To
+         * count just those above a bar counts the most, so the fair bar is the greatest of these bars.
          */
         private void findFairBar(int box) {
             Book book = all.at(box);
