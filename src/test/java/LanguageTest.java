@@ -1,4 +1,3 @@
-import com.sun.source.tree.AssertTree;
 import com.sun.source.tree.AssignmentTree;
 import com.sun.source.tree.ArrayAccessTree;
 import com.sun.source.tree.BinaryTree;
@@ -9,18 +8,12 @@ import com.sun.source.tree.CompoundAssignmentTree;
 import com.sun.source.tree.DoWhileLoopTree;
 import com.sun.source.tree.ExpressionTree;
 import com.sun.source.tree.ForLoopTree;
-import com.sun.source.tree.InstanceOfTree;
-import com.sun.source.tree.LambdaExpressionTree;
 import com.sun.source.tree.LiteralTree;
-import com.sun.source.tree.MemberReferenceTree;
 import com.sun.source.tree.MethodInvocationTree;
 import com.sun.source.tree.MethodTree;
 import com.sun.source.tree.NewArrayTree;
 import com.sun.source.tree.NewClassTree;
-import com.sun.source.tree.SynchronizedTree;
-import com.sun.source.tree.ThrowTree;
 import com.sun.source.tree.Tree;
-import com.sun.source.tree.TryTree;
 import com.sun.source.tree.TypeCastTree;
 import com.sun.source.tree.UnaryTree;
 import com.sun.source.tree.VariableTree;
@@ -58,6 +51,11 @@ public final class LanguageTest extends TreePathScanner<Void, Void> {
         "java.lang.System.arraycopy", "java.util.Arrays.fill");
     private static final Set<TypeKind> CONSTANTS =
         EnumSet.of(TypeKind.INT, TypeKind.LONG, TypeKind.BOOLEAN, TypeKind.CHAR);
+    private static final Map<Tree.Kind, String> RULED_OUT = Map.of(
+        Tree.Kind.LAMBDA_EXPRESSION, "rule 2: no lambda", Tree.Kind.MEMBER_REFERENCE, "rule 2: no method reference",
+        Tree.Kind.THROW, "rule 6: no throw", Tree.Kind.TRY, "rule 6: no try", Tree.Kind.ASSERT, "rule 6: no assert",
+        Tree.Kind.SYNCHRONIZED, "rule 6: no synchronized",
+        Tree.Kind.INSTANCE_OF, "rule 6: no instanceof, as no class here has kinds");
     private static final int MOST_CLASSES = 12;
     private static final int MOST_FIELDS = 20;
     private static final int MOST_PARAMETERS = 7;
@@ -99,14 +97,13 @@ public final class LanguageTest extends TreePathScanner<Void, Void> {
         }
     }
 
-    private void refuse(int rule, String what, Tree at) {
-        long line = unit.getLineMap().getLineNumber(startOf(at));
-        Due.is("rule " + rule + ": " + what + ", line " + line, false, true);
+    private void refuse(String what, Tree at) {
+        Due.is(what + ", line " + unit.getLineMap().getLineNumber(startOf(at)), false, true);
     }
 
     private void ask(int rule, String what, Tree at, boolean holds) {
         if (!holds) {
-            refuse(rule, what, at);
+            refuse("rule " + rule + ": " + what, at);
         }
     }
 
@@ -270,48 +267,14 @@ public final class LanguageTest extends TreePathScanner<Void, Void> {
         return deepest + 1;
     }
 
-    // What is ruled out
+    // What is ruled out, whole or for some types
 
     @Override
-    public Void visitLambdaExpression(LambdaExpressionTree tree, Void none) {
-        refuse(2, "no lambda", tree);
-        return null;
-    }
-
-    @Override
-    public Void visitMemberReference(MemberReferenceTree tree, Void none) {
-        refuse(2, "no method reference", tree);
-        return null;
-    }
-
-    @Override
-    public Void visitThrow(ThrowTree tree, Void none) {
-        refuse(6, "no throw", tree);
-        return null;
-    }
-
-    @Override
-    public Void visitTry(TryTree tree, Void none) {
-        refuse(6, "no try", tree);
-        return null;
-    }
-
-    @Override
-    public Void visitSynchronized(SynchronizedTree tree, Void none) {
-        refuse(6, "no synchronized", tree);
-        return null;
-    }
-
-    @Override
-    public Void visitAssert(AssertTree tree, Void none) {
-        refuse(6, "no assert", tree);
-        return null;
-    }
-
-    @Override
-    public Void visitInstanceOf(InstanceOfTree tree, Void none) {
-        refuse(6, "no class is asked for here, as none has kinds", tree);
-        return null;
+    public Void scan(Tree tree, Void none) {
+        if (tree != null && RULED_OUT.containsKey(tree.getKind())) {
+            refuse(RULED_OUT.get(tree.getKind()), tree);
+        }
+        return super.scan(tree, none);
     }
 
     @Override
